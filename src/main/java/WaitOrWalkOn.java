@@ -1,5 +1,3 @@
-import java.util.Arrays;
-
 /** A road at night with stops and lines: is it better to wait, or to walk on? The promises stand in shared/DOC.md. */
 public final class WaitOrWalkOn {
     private static final int NOBODY = -1;
@@ -870,22 +868,31 @@ public final class WaitOrWalkOn {
 
         /** How many statements came onto a road, or the fault; with one the road may hold some of them. */
         int readOnto(Road road) {
-            // Of no letters at all it is the end where the first statement lacks.
-            int wrong = length == 0 ? 0 : -1;
-            for (int place = 0; place < length && wrong < 0; place = digitsEnd(place) + 1) {
-                wrong = wrongPlace(place);
-            }
+            int wrong = firstWrongPlace();
             if (wrong >= 0) {
                 return -1000 - wrong;
             }
+            int place = 0;
             int statements = 0;
-            for (int place = 0; place < length; place = digitsEnd(place) + 1) {
+            for (int i = 0; i < length && place < length; i++) {
                 if (!takeStatement(road, place)) {
                     return -2000 - place;
                 }
+                place = digitsEnd(place) + 1;
                 statements++;
             }
             return statements;
+        }
+
+        /** The place with which no road can go on; -1 for none. */
+        private int firstWrongPlace() {
+            int wrong = wrongPlace(0);
+            int place = digitsEnd(0) + 1;
+            for (int i = 0; i < length && place < length && wrong < 0; i++) {
+                wrong = wrongPlace(place);
+                place = digitsEnd(place) + 1;
+            }
+            return wrong;
         }
 
         /** The letter at a place; -1 behind the end. */
@@ -999,10 +1006,9 @@ public final class WaitOrWalkOn {
             line.kind = kindAt(place + 1);
             line.run = digit(digits);
             line.never = digit(digits + 1);
-            int minutes = Math.min(NEVER, digitsEnd(place) - digits - 2);
-            Arrays.fill(line.chances, 0);
-            for (int t = 0; t < minutes; t++) {
-                line.chances[t] = digit(digits + 2 + t);
+            int minutes = digitsEnd(place) - digits - 2;
+            for (int t = 0; t < NEVER; t++) {
+                line.chances[t] = t < minutes ? digit(digits + 2 + t) : 0;
             }
             road.lineCount++;
             return line.run > 0 && line.total() > 0;

@@ -88,10 +88,7 @@ public final class LanguageTest {
         check("no lambda", !code.contains("->"));
         check("no method reference", !code.contains("::"));
         check("signs 1 to 127", source.chars().allMatch(c -> c > 0 && c < 128));
-        Matcher imports = Pattern.compile("(?m)^import (.*);").matcher(code);
-        while (imports.find()) {
-            check("import " + imports.group(1), imports.group(1).equals("java.util.Arrays"));
-        }
+        check("no import", !code.contains("import "));
         for (String row : code.split("\n")) {
             check("objects are made with the object only: " + row,
                 !row.contains("new ") || row.contains(" final ") || row.trim().equals("lines[i] = new Line();"));

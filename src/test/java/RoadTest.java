@@ -5,6 +5,7 @@ public final class RoadTest {
         letters();
         roads();
         firstFaults();
+        endsWithItsLetters();
         secondFaults();
         faultsChangeNothing();
         stops();
@@ -121,6 +122,20 @@ public final class RoadTest {
         fault("lb1111x;", -1006);
         fault("s0;s1;x", -1006);
         fault("s0;lb1", -1006);
+    }
+
+    /** What stood behind the end in an earlier text does not count. */
+    private static void endsWithItsLetters() {
+        WaitOrWalkOn x = Due.road("s12;s1;");
+        Due.is("the end lacks", Due.tell(x, "s34"), -1003);
+        Due.is("a digit lacks", Due.tell(x, "p2"), -1002);
+        Due.is("nothing at all", Due.tell(x, ""), -1000);
+        StringBuilder full = new StringBuilder("h10;h1");
+        for (int i = 0; i < 30; i++) {
+            full.append(";h2");
+        }
+        Due.is("96 letters and no end", Due.tell(x, full.toString()), -1096);
+        Due.is("nothing came", x.count(2), 413);
     }
 
     private static void secondFaults() {

@@ -13,6 +13,7 @@ public final class BestEdgesTest {
         comingInJust60();
         comingLaterThan60();
         oneStop();
+        eachLineBehindEachChange();
         patienceFirstMinute();
         patienceNone();
         newsOfNothing();
@@ -149,6 +150,22 @@ public final class BestEdgesTest {
         best("while it is there", x, 0, 1, 1, 3, 1);
         best("behind it", x, 0, 2, -9, 0, 1);
         Due.is("patience", x.patience(0), 0);
+    }
+
+    /** What is best is that of the ROAD as it is now, whichever LINE is asked for first behind a change of it. */
+    private static void eachLineBehindEachChange() {
+        for (int line = 0; line < 3; line++) {
+            WaitOrWalkOn x = Due.road("s999;h200;p20;lb90000000000009;lb9009;lb909;");
+            long first = x.bestMean(line, 0, 0, 0);
+            Due.is("surely, line " + line, first, new int[] {30, 20, 19}[line]);
+            Due.is("image", x.image(), 2);
+            Due.is("set", x.set(0, 400), 200);
+            Due.is("behind set, line " + line, x.bestMean(line, 0, 0, 0), first + 10);
+            Due.is("road", Due.tell(x, "h600;"), 1);
+            Due.is("behind road, line " + line, x.bestMean(line, 0, 0, 0), first + 20);
+            Due.is("on", x.on(), 2);
+            Due.is("behind on, line " + line, x.bestMean(line, 0, 0, 0), first);
+        }
     }
 
     /** PATIENCE: "the first MINUTE (0 .. 59) in which it is BEST to walk from STOP 0". */

@@ -829,7 +829,7 @@ public final class WaitOrWalkOn {
 
         /** The yards from a stop to the next one, from the last one home. */
         int yardsFrom(int stop) {
-            return stop >= 0 && stop < last() ? legs[stop + 1] : home;
+            return stop >= 0 && stop < stops - 1 ? legs[stop + 1] : home;
         }
 
         /** The minutes from a stop to the next one, from the last one home. */

@@ -8,6 +8,7 @@ public final class BestEdgesTest {
         canNotBeAnyMore();
         goesByWhereItDoesNotHalt();
         passedBetweenStops();
+        passedWalksAllTheRest();
         waitingInto60();
         inMinute60JustThen();
         comingInJust60();
@@ -110,6 +111,16 @@ public final class BestEdgesTest {
         // In 8 it is at STOP 1 in 10, just as he: 13 or 21.
         best("not passed: 202 by 10", y, 0, 0, 1, 101, 5);
         best("passed a MINUTE later", y, 0, 1, 1, 22, 1);
+    }
+
+    /** "walks all the rest": though he would be at STOP 2 in just its MINUTE, as the LINE takes 4 for a LEG of 1. */
+    private static void passedWalksAllTheRest() {
+        WaitOrWalkOn x = Due.road("s800;s80;s800;h80;p80;lb490001;");
+        // It comes in 3 or never, 1 to 9: waiting 16 or 25, walking 22, for it passes him in 7.
+        best("he walks", x, 0, 0, 1, 22, 1);
+        // Who stands at STOP 1 in 7 is there just then, and in 8 knows that it never comes.
+        best("it is there, or never", x, 1, 7, 1, 16 + 9 * 19, 10);
+        best("never", x, 1, 8, 1, 20, 1);
     }
 
     /** "one waits a MINUTE more": also in 59, if it may be there in 60. */

@@ -26,6 +26,7 @@ public final class GoersEdgesTest {
         goerWaitsNoMore();
         walkerInJustThatMinute();
         passedBetweenStops();
+        passedAndThereAgain();
         lookerInSightOrFewer();
         lookerWhereItHalts();
         toldUpToFigure();
@@ -175,6 +176,20 @@ public final class GoersEdgesTest {
                 home("passed", x, kind, 0, t, 21);
             }
         }
+    }
+
+    /**
+     * "Who is at a STOP where it halts in the MINUTE in which it is there rides": also one who was passed ahead of it
+     * and then went faster than the LINE. Walking takes 10, 1, 10 and 1, a bus 4 a LEG.
+     */
+    private static void passedAndThereAgain() {
+        WaitOrWalkOn x = Due.road("s800;s80;s800;h80;p80;e0;lb4111;");
+        home("it is at STOP 1 in 6, he in 10; at STOP 2 it in 10, he in 11", x, WALKER, 0, 2, 22);
+        home("it is at STOP 1 in 7, he in 10; at STOP 2 both in 11", x, WALKER, 0, 3, 16);
+        home("it is at STOP 2 in 12, he in 11", x, WALKER, 0, 4, 22);
+        Due.is("he looks", x.set(2, 1), 0);
+        home("and sees it there", x, LOOKER, 0, 4, 17);
+        home("but not where it is no more", x, LOOKER, 0, 2, 22);
     }
 
     /** "if the LINE .. is there in SIGHT MINUTES or fewer", "(STOP 0, too)"; SIGHT 0 and 9. */
